@@ -742,13 +742,16 @@ public final class PastOnce {
      */
     private static final class Ahead {
         static final int RAN = 1 << SORTS;
-        private static final int ROOMS = GREATEST_PLATE + 1, SIGNS = 2 * RAN;
+        private static final int ROOMS = GREATEST_PLATE + 1, SIGNS = 2 * RAN, BLOCK = DISHES * ROOMS;
         // A kept number is a stamp and, below it, what was worked out: at most 1200 times 12 to the 9th.
         private static final int BITS = 44;
         private static final long LOW = (1L << BITS) - 1, LAST_STAMP = (1L << 63 - BITS) - 1;
 
         private final Line line;
-        private final long[] known = new long[DISHES * ROOMS * SIGNS];
+        // A block for each of the SIGNS that were ever met: most lines have few of them.
+        private long[] known = new long[2 * BLOCK];
+        private final int[] blocks = new int[SIGNS];
+        private int met = 0;
         private final int[] sortsFrom = new int[DISHES];
         private final long[] scale = new long[DISHES];
         private long stamp = 0;
@@ -803,7 +806,7 @@ public final class PastOnce {
             }
             // A SORT that no longer comes need not be told apart.
             int seen = signs & (sortsFrom[i] | RAN);
-            int place = (i * ROOMS + room) * SIGNS + seen;
+            int place = blockOf(seen) + i * ROOMS + room;
             if (known[place] >>> BITS == stamp) {
                 return known[place] & LOW;
             }
@@ -814,6 +817,17 @@ public final class PastOnce {
             }
             known[place] = stamp << BITS | worth;
             return worth;
+        }
+
+        private int blockOf(int seen) {
+            if (blocks[seen] == 0) {
+                met++;
+                blocks[seen] = met;
+                if (met * BLOCK > known.length) {
+                    known = Arrays.copyOf(known, 2 * known.length);
+                }
+            }
+            return (blocks[seen] - 1) * BLOCK;
         }
 
         private long worthIfThere(int i, int room, int signs) {
@@ -1138,13 +1152,13 @@ public final class PastOnce {
     /** THE LAW as steps on a pile of numbers; each byte of the text makes at most one step. */
     private static final class Code {
         static final int NUMBER = 1, NAME = 2, MINUS = 3;
-        private static final int STEPS = 128, NAMES = 6;
+        private static final int STEPS = 128, LONGEST = 64, NAMES = 6;
 
         private final int[] step = new int[STEPS];
         private final int[] with = new int[STEPS];
         // Where the first E of each LINE ends (where the LINE begins, if it has none), and the LINE.
-        final int[] firstEnd = new int[STEPS];
-        final int[] lineEnd = new int[STEPS];
+        final int[] firstEnd = new int[LONGEST];
+        final int[] lineEnd = new int[LONGEST];
         private final int[] names = new int[NAMES];
         private final int[] pile = new int[STEPS];
         int lines = 0;
@@ -1192,13 +1206,13 @@ public final class PastOnce {
         }
 
         void markFirst() {
-            if (lines < STEPS) {
+            if (lines < LONGEST) {
                 firstEnd[lines] = size;
             }
         }
 
         void endLine() {
-            if (lines < STEPS) {
+            if (lines < LONGEST) {
                 lineEnd[lines] = size;
                 lines++;
             }
