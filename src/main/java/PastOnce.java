@@ -15,7 +15,7 @@ public final class PastOnce {
     private static final int[] MOST = {20, 9, 9, 9, 4, 1, 99, 12, 60, 31};
     private static final int[] AT_FIRST = {5, 1, 3, 4, 0, 0, 10, 12, 20, 0};
     private static final int BY_BEST = 0, SHY = 1, BY_LAW = 2, GREEDY = 3, HABITS = 4;
-    private static final int GUESTS = 10, LINES = 20, LAID = 5;
+    private static final int GUESTS = 10, LINES = 20, LAID = 5, ORDERS = 120;
     private static final int A_FOUR = 4;
 
     private final Table table = new Table();
@@ -235,17 +235,12 @@ public final class PastOnce {
         if (table.size > LAID) {
             return STATE;
         }
-        int least = findOrder(nh);
-        return place == -1 ? least : bestOrder[place];
-    }
-
-    private int findOrder(int nh) {
-        int least = Integer.MAX_VALUE;
         for (int i = 0; i < table.size; i++) {
             order[i] = i;
         }
+        int least = Integer.MAX_VALUE;
         boolean more = true;
-        for (int tried = 0; more && tried < 120; tried++) {
+        for (int tried = 0; more && tried < ORDERS; tried++) {
             line.copyInOrder(table, order);
             int cost = costOfGuests(nh, least);
             if (cost < least) {
@@ -254,7 +249,7 @@ public final class PastOnce {
             }
             more = Line.nextOrder(order, table.size);
         }
-        return least;
+        return place == -1 ? least : bestOrder[place];
     }
 
     public int small(int nh, int most) {
