@@ -17,6 +17,9 @@ public final class PastOnce {
     private static final int BY_BEST = 0, SHY = 1, BY_LAW = 2, GREEDY = 3, HABITS = 4;
     private static final int GUESTS = 10, LINES = 20, LAID = 5, ORDERS = 120;
     private static final int A_FOUR = 4;
+    private static final int NO_LIMIT = 2147483647;
+    // The document's Long.MIN_VALUE: LANGUAGE.md lists the functions of Long alone.
+    private static final long NO_NUMBER = -9223372036854775807L - 1;
 
     private final Table table = new Table();
     private final Law rule = new Law();
@@ -141,7 +144,7 @@ public final class PastOnce {
 
     public long mean(int part) {
         if (part < 0 || part > 4) {
-            return Long.MIN_VALUE;
+            return NO_NUMBER;
         }
         if (part >= 2 && table.size == 0) {
             return NOT;
@@ -178,9 +181,15 @@ public final class PastOnce {
             return VOID;
         }
         line.copy(table);
-        int ahead = what == 1 ? letGuestPass(BY_BEST) : 0;
+        int ahead = 0;
+        if (what == 1) {
+            goer.goBy(BY_BEST);
+            line.lose(goer.got);
+            ahead = goer.worth;
+        }
         letQueuePass(shelf);
-        return ahead + letGuestPass(BY_BEST);
+        goer.goBy(BY_BEST);
+        return ahead + goer.worth;
     }
 
     private void letQueuePass(int shelf) {
@@ -188,15 +197,10 @@ public final class PastOnce {
         for (int g = 0; g < guests; g++) {
             long habit = shelves.cell(shelf, g);
             if (habit >= 0 && habit < HABITS) {
-                letGuestPass((int) habit);
+                goer.goBy((int) habit);
+                line.lose(goer.got);
             }
         }
-    }
-
-    private int letGuestPass(int habit) {
-        goer.goBy(habit);
-        line.lose(goer.got);
-        return goer.worth;
     }
 
     // 10 times a number from 1 on, and one of the HABITS.
@@ -209,7 +213,7 @@ public final class PastOnce {
             return BAD;
         }
         line.copy(table);
-        return costOfGuests(nh, Integer.MAX_VALUE);
+        return costOfGuests(nh, NO_LIMIT);
     }
 
     // No further guest is looked at once the cost is above the limit: then it no longer matters by how much.
@@ -238,7 +242,7 @@ public final class PastOnce {
         for (int i = 0; i < table.size; i++) {
             order[i] = i;
         }
-        int least = Integer.MAX_VALUE;
+        int least = NO_LIMIT;
         boolean more = true;
         for (int tried = 0; more && tried < ORDERS; tried++) {
             line.copyInOrder(table, order);
@@ -268,7 +272,7 @@ public final class PastOnce {
 
     public long offers(int n, int r, int part) {
         if (n < 1 || n > TWELVE || r < 0 || r >= n || part < 0 || part > 1) {
-            return Long.MIN_VALUE;
+            return NO_NUMBER;
         }
         return Fractions.part(Fractions.likely(n, r), (long) n * Fractions.SHARED, part);
     }
@@ -465,7 +469,7 @@ public final class PastOnce {
     }
 
     public long element(int shelf, int i) {
-        return shelves.refusalOfPlace(shelf, i) != 0 ? Long.MIN_VALUE : shelves.cell(shelf, i);
+        return shelves.refusalOfPlace(shelf, i) != 0 ? NO_NUMBER : shelves.cell(shelf, i);
     }
 
     public int shift(int shelf, int i, int other, int j, int n) {

@@ -8,11 +8,22 @@ public final class AgainstSlow {
     private static final String LETTERS = "wslknt0123456789()()!!--+*/%<=>|&?;;wwtt";
 
     public static void main(String[] args) {
-        for (int run = 0; run < 4000 && CHECK.isClean(); run++) {
+        for (int run = 0; run < 8000 && CHECK.isClean(); run++) {
             new AgainstSlow(run).go();
         }
+        PastOnce x = null;
+        Slow y = null;
         for (int run = 0; run < 300000 && CHECK.isClean(); run++) {
-            tellLaw(new Random(run), run);
+            // An object is used for 512 calls at most: three laws and what is got by them.
+            if (run % 3 == 0) {
+                x = new PastOnce();
+                y = new Slow();
+                for (int i = 0; i < 4; i++) {
+                    x.dish(35 + 41 * i, i);
+                    y.dish(35 + 41 * i, i);
+                }
+            }
+            tellLaw(new Random(run), x, y);
         }
         CHECK.finish();
     }
@@ -22,6 +33,7 @@ public final class AgainstSlow {
     private final PastOnce x = new PastOnce();
     private final Slow y = new Slow();
     private final StringBuilder calls = new StringBuilder();
+    private int asked = 0;
 
     private AgainstSlow(int run) {
         this.run = run;
@@ -29,6 +41,7 @@ public final class AgainstSlow {
     }
 
     private void due(String call, long got, long want) {
+        asked++;
         calls.append(call).append("; ");
         if (got != want) {
             System.out.println("run " + run + ": " + calls);
@@ -47,8 +60,9 @@ public final class AgainstSlow {
                 mend(i, 5, random.nextInt(2));
             }
         }
+        // No more than the 512 calls that an object is used for, with room for the bytes of some laws.
         int n = 20 + random.nextInt(130);
-        for (int c = 0; c < n && CHECK.isClean(); c++) {
+        for (int c = 0; c < n && asked < 380 && CHECK.isClean(); c++) {
             call();
         }
     }
@@ -298,15 +312,7 @@ public final class AgainstSlow {
     }
 
     /** Texts by draws: most of them have a fault somewhere; the law that stands is tried on a short line. */
-    private static void tellLaw(Random random, int run) {
-        PastOnce x = LAW_X;
-        Slow y = LAW_Y;
-        if (y.dishes.isEmpty()) {
-            for (int i = 0; i < 4; i++) {
-                x.dish(35 + 41 * i, i);
-                y.dish(35 + 41 * i, i);
-            }
-        }
+    private static void tellLaw(Random random, PastOnce x, Slow y) {
         StringBuilder text = new StringBuilder();
         int length = random.nextInt(random.nextInt(20) == 0 ? 121 : 14);
         while (text.length() < length) {
@@ -324,7 +330,4 @@ public final class AgainstSlow {
             CHECK.due("law " + law + ", byLaw(" + d + ")", x.byLaw(d), y.byLaw(d));
         }
     }
-
-    private static final PastOnce LAW_X = new PastOnce();
-    private static final Slow LAW_Y = new Slow();
 }

@@ -12,7 +12,7 @@ public final class AnyArguments {
             any(new Random(run));
         }
         dearest();
-        stampsRunOut();
+        marksComeRound();
         C.finish();
     }
 
@@ -117,22 +117,38 @@ public final class AnyArguments {
         C.holds("800 of the dearest calls took " + seconds + " seconds", seconds < 60);
     }
 
-    // Far more calls than an object is used for: the marks of what was worked out come round, and nothing that was
-    // worked out long ago on a greater plate is taken for new.
-    private static void stampsRunOut() {
+    // The marks of what was worked out come round when 512 calls send guests along the line as often as they can: what
+    // was worked out first, on a greater PLATE, is not taken for new then.
+    private static void marksComeRound() {
         PastOnce x = new PastOnce();
         x.dish(59, 0);
-        x.dish(209, 1);
-        x.mend(0, 8, 9);
-        boolean same = x.best(-1) == 20;
-        x.mend(0, 8, 4);
-        // One less than there are marks, so that the next call has the mark of the first one.
-        for (int i = 0; i < (1 << 19) - 2; i++) {
-            same &= x.best(-1) == 0;
+        x.mend(0, 6, 0);
+        for (int i = 1; i < 5; i++) {
+            x.dish(201, 0);
+            x.mend(i, 3, 9);
+            x.mend(i, 6, 0);
         }
         x.mend(0, 8, 9);
-        x.mend(1, 0, 0);
-        same &= x.best(-1) == 5;
-        C.holds("the answers stay", same);
+        // There are marks from 1 on to 2 to the 19th less 1: this one is the first, and so is that of the last call.
+        C.due("of the great ones", x.best(0), 0);
+        x.mend(0, 8, 1);
+        int marks = (1 << 19) - 2;
+        boolean free = true;
+        // Ten guests, or nine, by each of 120 ORDERS.
+        for (; marks >= 1200; marks -= 1200) {
+            free &= x.lay(100, -1) == 0;
+        }
+        for (; marks >= 1080; marks -= 1080) {
+            free &= x.lay(90, -1) == 0;
+        }
+        for (; marks > 0; marks--) {
+            free &= x.best(-2) == 0;
+        }
+        C.holds("what costs nothing", free);
+        x.mend(0, 8, 9);
+        for (int i = 1; i < 5; i++) {
+            x.mend(i, 0, 0);
+        }
+        C.due("the great ones are worth nothing", x.best(0), 1);
     }
 }

@@ -206,21 +206,11 @@ public final class GuestsTest {
     }
 
     private static void offers() {
-        for (int n = 1; n <= 7; n++) {
-            long all = 1;
-            for (int i = 2; i <= n; i++) {
-                all *= i;
-            }
-            for (int r = 0; r < n; r++) {
-                long lucky = Slow.lucky(n, r);
-                long common = java.math.BigInteger.valueOf(lucky).gcd(java.math.BigInteger.valueOf(all)).longValue();
-                C.due("17: offers(" + n + ", " + r + ", 0)", new PastOnce().offers(n, r, 0), lucky / common);
-                C.due("17: offers(" + n + ", " + r + ", 1)", new PastOnce().offers(n, r, 1), all / common);
-            }
-        }
         PastOnce x = new PastOnce();
         C.due("17: the first of 12", x.offers(12, 0, 0), 1);
         C.due("17: the last of 12", x.offers(12, 11, 1), 12);
+        C.due("17: 4 by 1, above", x.offers(4, 1, 0), 11);
+        C.due("17: 4 by 1, below", x.offers(4, 1, 1), 24);
         // 3 by 12 times (1/3 + .. + 1/11) = 42131/110880.
         C.due("17: 12 by 3, above", x.offers(12, 3, 0), 42131 / gcd(42131, 110880));
         int[][] bad = {{0, 0, 0}, {13, 0, 0}, {4, 4, 0}, {4, -1, 0}, {4, 0, 2}, {4, 0, -1}, {-1, 0, 0}};
