@@ -120,7 +120,7 @@ final class RowDishEdges {
     }
 
     private void howMany() {
-        e.says("Promise 3", "from place i on, n (1 .. 9) of them: how many came (0 with i below 0).");
+        e.says("Promise 3", "DISHES FROM A ROW on a SHELF, from place i on, n (1 .. 9) of them: how many came (0 with i below 0).");
         e.between("dishes(0, 0, n)", 1, 9, Edge.BAD, n -> with(5, 3, 4, 0).dishes(0, 0, n));
         e.due("dishes(0, 0, 0)", with(5, 3, 4, 0).dishes(0, 0, 0), Edge.BAD);
         int[] below = {-1, -4, Integer.MIN_VALUE};
