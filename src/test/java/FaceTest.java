@@ -5,6 +5,8 @@ import java.lang.reflect.Method;
 import java.lang.reflect.Modifier;
 import java.nio.file.Files;
 import java.nio.file.Path;
+import java.util.ArrayList;
+import java.util.List;
 import java.util.Set;
 import java.util.TreeSet;
 import java.util.regex.Matcher;
@@ -14,6 +16,7 @@ import java.util.regex.Pattern;
 public final class FaceTest {
     private static final Check C = new Check("FaceTest");
     private static final Path SOURCE = Path.of("src/main/java/PastOnce.java");
+    private static final Path DOC = Path.of("../shared/DOC.md");
     private static final String[] METHODS = {
         "int dish(int, int)", "int dishes(int, int, int)", "int mend(int, int, int)", "int of(int, int)", "int feed(int)", "int law()",
         "int best(int)", "int sight(int, int)", "int byLaw(int)", "long mean(int)", "int left(int, int)", "int after(int, int)", "int gone(int)",
@@ -25,6 +28,7 @@ public final class FaceTest {
 
     public static void main(String[] args) throws IOException {
         face();
+        order();
         nested();
         words();
         C.finish();
@@ -56,6 +60,27 @@ public final class FaceTest {
         Constructor<?>[] constructors = c.getDeclaredConstructors();
         C.holds("one constructor", constructors.length == 1 && Modifier.isPublic(constructors[0].getModifiers())
                 && constructors[0].getParameterCount() == 0);
+    }
+
+    /** The source has the face in the document's order and words, parted as the document says. */
+    private static void order() throws IOException {
+        String doc = Files.readString(DOC);
+        List<String> due = new ArrayList<>();
+        Matcher part = Pattern.compile("Ahead of the calls (.*) the interface says: (---- .*)\\.\n").matcher(doc);
+        while (part.find()) {
+            due.add(part.group(2));
+            for (String call : part.group(1).replace("`", "").split(", ")) {
+                Matcher m = Pattern.compile("public \\w+ " + call + "\\(.*\\)(?=;)").matcher(doc);
+                due.add(m.find() ? m.group() : call);
+            }
+        }
+        C.due("parts and calls of the document", due.size(), METHODS.length + 6);
+        List<String> stand = new ArrayList<>();
+        Matcher row = Pattern.compile("(?m)^ {4}(?:// (---- .*)|(public \\w+ \\w+\\(.*\\)) \\{)$").matcher(Files.readString(SOURCE));
+        while (row.find()) {
+            stand.add(row.group(1) != null ? row.group(1) : row.group(2));
+        }
+        C.holds("the source has " + stand, stand.equals(due));
     }
 
     private static Set<String> names() {
